@@ -12,6 +12,8 @@ public final class HandsTest {
     Due.due("fewestHands: never first", none.fewestHands(0), Due.NONE);
     Due.due("mostHands: a machine doesn't mind", none.mostHands(2), 20);
     Due.due("fewestHands: a field of nothing", none.fewestHands(1), 1);
+    SheafVotes one = Due.parish("farm 40;farm 16");
+    Due.due("mostHands: 1", one.mostHands(1), 1);
     SheafVotes edge = Due.parish("farm 2;farm 2 hands 1;farm 40 hands 20");
     Due.due("mostHands: with others", edge.mostHands(2), 20);
     Due.due("fewestHands: with others", edge.fewestHands(2), 20);
@@ -25,6 +27,14 @@ public final class HandsTest {
     SheafVotes three = Due.parish("farm 8;farm 8;farm 16");
     Due.due("lend: it lends none itself", three.lend(2), 1);
     Due.due("lend: it lends one", three.lend(1), 8);
+    // 12 by 6 are as many days as 16 by 10; by 4, with two lent, they would be more.
+    SheafVotes byOne = Due.parish("farm 12;farm 16;machine 0 hands 20");
+    Due.due("lend: one, not two", byOne.lend(1), 1);
+    SheafVotes takesOne = Due.parish("machine 90;farm 31");
+    Due.due("lend: 31 by 10 are 4 days", takesOne.lend(1), 1);
+    Due.due("lend: only by 12 they would be 3", takesOne.lend(0), Due.NONE);
+    takesOne.change(1, 1, 30);
+    Due.due("lend: 30 by 10 are 3 days, by 8 are 4", takesOne.lend(0), 1);
     SheafVotes few = Due.parish("farm 40 hands 1;farm 40 hands 1");
     Due.due("lend: none has more than 1", few.lend(0), Due.NONE);
     SheafVotes many = Due.parish("farm 40 hands 20;farm 40 hands 20");

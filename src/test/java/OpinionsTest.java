@@ -26,6 +26,11 @@ public final class OpinionsTest {
     for (int[] w : wrong) {
       Due.due("tell(" + w[0] + ", " + w[1] + ")", x.tell(w[0], w[1]), Due.BEYOND);
     }
+    SheafVotes eight = Due.parish("farm 8;farm 8;farm 8;farm 8;farm 8;farm 8;farm 8;farm 8");
+    Due.due("tell: 8", eight.tell(24, 1), 255);
+    Due.due("tell: 7 of 8", eight.tell(21, 1), 127);
+    eight.change(7, 3, -1);
+    Due.due("voice: the 8th", eight.voice(), 7);
     Due.due("tell(-99, -9)", x.tell(-99, -9), 0);
     Due.due("tell: no farms", new SheafVotes().tell(1, 9), Due.NONE);
   }

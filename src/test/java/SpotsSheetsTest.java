@@ -79,6 +79,7 @@ public final class SpotsSheetsTest {
     Due.due("judge: 5", x.judge(0), 2);
     x.sheet(0, 32, 3);
     Due.due("sheet: all 0 again", x.judge(0), 0);
+    x.write(0, 0, 6);
     x.write(0, 2, 7);
     x.sheet(0, 16, 1);
     x.sheet(0, 8, 3);

@@ -91,6 +91,10 @@ public final class TextsTest {
     fault("farmlame 1", 0);
     fault("far 1", 0);
     fault("farms 1", 0);
+    fault("garm 1", 0);
+    fault("farmz 1", 0);
+    fault("wet 5z", 5);
+    fault("azwet 5", 0);
     fault("Farm 1", 0);
     fault("farM 1", 0);
     fault("1", 0);

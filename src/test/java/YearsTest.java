@@ -43,6 +43,14 @@ public final class YearsTest {
     same("a lean of 0 changes no opinion", x, 20, 3, 9999, 1, 9, 0, 4, -9, 0);
   }
 
+  private static void goByOne() {
+    SheafVotes x = Due.parish("machine 9;farm 0 thinks 1");
+    Due.due("a lean of 1", x.lean(), 1);
+    Due.due("a lean of 1: opinions grow", x.go(1), 2);
+    x.change(1, 3, -1);
+    Due.due("a lean of -1: opinions fall", x.go(1), -2);
+  }
+
   private static void goAlone() {
     SheafVotes x = Due.parish("farm 8 thinks 2");
     Due.due("one farm is last and first", x.go(3), 6);
@@ -66,13 +74,18 @@ public final class YearsTest {
     Due.due("YEAR", x.now(0), 99960);
     Due.due("go(40): above 99999", x.go(40), Due.STATE);
     Due.due("go(61): BEYOND ahead of STATE", x.go(61), Due.BEYOND);
-    Due.due("go(39)", x.go(39), 0);
+    Due.due("go(38)", x.go(38), 0);
+    Due.due("weathers(2)", x.weathers(2), Due.STATE);
+    x.image();
+    Due.due("weathers(1): 99999", x.weathers(1), 0);
+    x.undo();
+    Due.due("go(1): 99999", x.go(1), 0);
     Due.due("YEAR", x.now(0), 99999);
     Due.due("go(1)", x.go(1), Due.STATE);
     Due.due("weathers(1)", x.weathers(1), Due.STATE);
     Due.due("weathers(21): BEYOND ahead of STATE", x.weathers(21), Due.BEYOND);
     Due.due("no draw was made", x.count(6), 1);
-    Due.due("status(4)", x.status(4), 3);
+    Due.due("status(4)", x.status(4), 4);
   }
 
   private static void now() {
@@ -82,6 +95,13 @@ public final class YearsTest {
     for (int what = 0; what < 6; what++) {
       Due.due("now(" + what + ")", x.now(what), all[what]);
     }
+    SheafVotes eight = Due.parish("farm 40;farm 8;farm 8;farm 8;farm 8;farm 8;farm 8;farm 8");
+    Due.due("now(5): the first", eight.now(5), 5);
+    Due.due("next(): all the others", eight.next(), 254);
+    for (int i = 0; i < 8; i++) {
+      eight.change(i, 4, 1 + i);
+    }
+    Due.due("now(3): 8", eight.now(3), 255);
     int[] wrong = {-1, 6, Integer.MIN_VALUE, Integer.MAX_VALUE};
     for (int what : wrong) {
       Due.due("now(" + what + ")", x.now(what), Due.BEYOND);
@@ -194,6 +214,7 @@ public final class YearsTest {
   public static void main(String[] args) {
     go();
     goAtEdges();
+    goByOne();
     goAlone();
     goToTheEnd();
     now();
