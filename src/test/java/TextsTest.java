@@ -81,6 +81,11 @@ public final class TextsTest {
     fault("farm 1 thinks --1", 15);
     fault("farm 1 thinks 2 hands 3", 16);
     fault("farm 1 thinks 2 thinks 3", 16);
+    fault("farm 1 thinks *1", 14);
+    fault("farm 1 thinks ;1", 14);
+    fault("farm 1 thinks wet", 14);
+    fault("farm wet", 5);
+    fault("wet five", 4);
     fault("farm 1 - 2", 7);
     fault("farm 1;", 7);
     fault("farm 1; ", 8);
