@@ -10,15 +10,21 @@ final class Due {
 
   private static int asked = 0;
   private static int wrong = 0;
+  private static String about = "";
 
   private Due() {
+  }
+
+  /** What is asked from here on is for these words of the document: of a promise, or (0) of its Terms. SentencesTest reads them. */
+  static void sentence(int promise, String words) {
+    about = (promise == 0 ? "Terms" : "Promise " + promise) + ", '" + words + "': ";
   }
 
   static void due(String call, long got, long want) {
     asked++;
     if (got != want) {
       wrong++;
-      System.out.println(call + " answered " + got + ", due is " + want);
+      System.out.println(about + call + " answered " + got + ", due is " + want);
     }
   }
 
@@ -26,7 +32,7 @@ final class Due {
     asked++;
     if (!isSo) {
       wrong++;
-      System.out.println("not so: " + what);
+      System.out.println(about + "not so: " + what);
     }
   }
 
@@ -49,6 +55,15 @@ final class Due {
       if (read(x, text) < 1) {
         holds("the test's own text reads: " + text, false);
       }
+    }
+    return x;
+  }
+
+  /** A parish without farms in a year that only more than 512 calls come to. */
+  static SheafVotes late(int year) {
+    SheafVotes x = new SheafVotes();
+    for (int left = year; left > 0; left -= 60) {
+      x.go(Math.min(60, left));
     }
     return x;
   }
