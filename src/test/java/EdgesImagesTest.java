@@ -7,8 +7,10 @@ public final class EdgesImagesTest {
     x.change(0, 0, 6);
     x.change(1, 1, 500);
     x.change(2, 2, 20);
-    x.hold(2, -1);
-    x.hold(3, 2);
+    for (int spot = 0; spot < 10; spot++) {
+      x.hold(spot, spot == 2 ? -1 : 4);
+    }
+    x.seed(1234);
   }
 
   private static void moreThanNothing(SheafVotes x) {

@@ -104,6 +104,13 @@ public final class EdgesSpotsTest {
       Due.due("another one isn't", x.write(1, 1, 5), 1);
       Twins.asked("bits 0 of one that is MISSING, n " + n, Twins::rich, y -> y.sheet(3, 0, n), 0);
     }
+    SheafVotes forty = Due.parish("farm 5");
+    forty.sheet(0, 16, 40);
+    forty.write(0, 39, 8);
+    Due.due("40 again", forty.sheet(0, 16, 40), 40);
+    forty.copy(0, 39, 0, 0, 1);
+    Due.due("the 40th came", forty.load(0), 1);
+    Due.due("the 40th is 0", forty.of(0, 1), 0);
     SheafVotes again = Due.parish("farm 0;farm 0");
     Twins.row(again, 0, 16, 5, 6);
     again.sheet(0, 0, 0);

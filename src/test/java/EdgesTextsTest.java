@@ -138,6 +138,7 @@ public final class EdgesTextsTest {
       fault(w + "s 1", 0);
       fault(w.substring(1) + " 1", 0);
       fault(w.substring(0, n - 1) + " 1", 0);
+      otherWords(w, " 1");
       farm(w + " 7 hands 1", kind, 7, 1, 0);
       farm(w + " 7 hands 20 thinks 9", kind, 7, 20, 9);
       farm(w + " 7 thinks -9", kind, 7, 4, -9);
@@ -163,6 +164,13 @@ public final class EdgesTextsTest {
     weatherItems();
   }
 
+  /** Each letter of a word, one by one, is another one: z, which stands in none of the words. */
+  private static void otherWords(String word, String behind) {
+    for (int i = 0; i < word.length(); i++) {
+      fault(word.substring(0, i) + "z" + word.substring(i + 1) + behind, 0);
+    }
+  }
+
   private static void weatherItems() {
     String[] words = {"wet", "mice", "rain"};
     for (int what = 0; what < 3; what++) {
@@ -181,9 +189,18 @@ public final class EdgesTextsTest {
       fault(w + " -0", n + 1);
       fault(w, n);
       fault(w + "s 1", 0);
+      otherWords(w, " 1");
       fault(w + " 1 hands 1", n + 3);
       fault(w + " 1 thinks 1", n + 3);
       fault(w + " 1 1", n + 3);
+    }
+    for (String word : new String[] {"hands", "thinks"}) {
+      for (int i = 0; i < word.length(); i++) {
+        fault("old 3 " + word.substring(0, i) + "z" + word.substring(i + 1) + " 1", 6);
+      }
+      fault("old 3 " + word + "s 1", 6);
+      fault("old 3 " + word.substring(1) + " 1", 6);
+      fault("old 3 " + word.substring(0, word.length() - 1) + " 1", 6);
     }
     fault("hands 1", 0);
     fault("thinks 1", 0);

@@ -110,7 +110,15 @@ public final class EdgesYearsTest {
     Twins.asked("none is next, all are LAST", Twins.texts("farm 1;farm 1;farm 8"), x -> x.next(), 0);
     Twins.asked("next without DAYS", Twins.texts("farm 0;farm 1;farm 0"), x -> x.next(), 5);
     Twins.asked("next of three", Twins.texts("farm 9;farm 24;farm 8;farm 16;farm 0"), x -> x.next(), 1 + 8);
-    Twins.asked("next: the 8th", Twins::full, x -> x.next() & x.last(), 0);
+    Twins.asked("next: none of those that are LAST", Twins::full, x -> x.next() & x.last(), 0);
+    Twins.asked("next, the first is LAST", Twins.texts("farm 24;farm 9;farm 8;farm 16;farm 0"), x -> x.next(), 2 + 8);
+    Twins.asked("next, the 8th is LAST", Twins.texts("farm 8;farm 1;farm 2;farm 3;farm 4;farm 5;farm 0;farm 9"), x -> x.next(), 63);
+    // WET 70: 9 by 1 are 9 days, 10 by a MACHINE's 2 are 5, 13 by 4 are 4; dry it is 2, 1 and 2.
+    Twins.Making wet = Twins.texts("farm 9;machine 10;proud 13;wet 70");
+    Twins.asked("next in the wet", wet, x -> x.next(), 2);
+    Twins.asked("now(5) in the wet", wet, x -> x.now(5), 9);
+    Twins.asked("last in the wet", wet, x -> x.last(), 1);
+    Twins.asked("first in the wet", wet, x -> x.first(), 4);
     Due.sentence(8, "FIRST, as a set.");
     Twins.asked("no FARMS", Twins::empty, x -> x.first(), 0);
     Due.sentence(7, "LAST, as a set.");
@@ -190,6 +198,8 @@ public final class EdgesYearsTest {
       int w = what;
       Twins.asked("8 FARMS: now(" + what + ")", most, x -> x.now(w), ofMost[what]);
     }
+    Twins.asked("now(5): of the first", Twins.texts("farm 40;farm 8;farm 0"), x -> x.now(5), 5);
+    Twins.asked("now(5): of the last", Twins.texts("farm 0;farm 8;farm 40"), x -> x.now(5), 5);
     SheafVotes x = Due.parish("farm 0 hands 1 thinks -9;farm 0 hands 1 thinks -9");
     Due.due("now(1)", x.now(1), 2);
     Due.due("now(2)", x.now(2), -18);

@@ -35,13 +35,30 @@ final class Twins {
   static void empty(SheafVotes x) {
   }
 
-  /** What texts tell. */
+  /** What texts tell, behind other questions. */
   static Making texts(String... texts) {
     return x -> {
       for (String text : texts) {
         Due.holds("the test's own text reads: " + text, Due.read(x, text) > 0);
       }
+      askOtherwise(x);
     };
+  }
+
+  /** What was asked when all was otherwise must not matter any more. */
+  static void askOtherwise(SheafVotes x) {
+    x.image();
+    for (int what = 0; what < 3; what++) {
+      x.weather(what, 99);
+    }
+    for (int farm = 0; farm < x.count(1); farm++) {
+      x.change(farm, 1, 100 * farm + 7);
+      x.change(farm, 3, 9 - 2 * farm);
+    }
+    x.go(1);
+    x.leans(60);
+    x.undo();
+    x.tear();
   }
 
   /** Something of everything: farms, years, spots, an image that is otherwise by now, a tape, sheets of each sort. */
