@@ -199,6 +199,9 @@ public final class EdgesHandsTest {
       found("wetFor(0)", "farm 12 hands 5;old " + o[0] + " hands 1", x -> x.wetFor(0), o[1]);
       found("wetFor(0)", "farm 12 hands 5;old " + o[0] + " hands 1;wet 99", x -> x.wetFor(0), o[1]);
     }
+    // 12 with 6 hands take 4 days at WET 90 to 99; at 100, which there isn't, they would take 6.
+    found("wetFor(0): at 90", "farm 12 hands 6;old 4 hands 1", x -> x.wetFor(0), 90);
+    found("wetFor(0): not at 100", "farm 12 hands 6;old 5 hands 1", x -> x.wetFor(0), Due.NONE);
     found("wetFor: whatever WET is now", "machine 60;farm 40;wet 99", x -> x.wetFor(0), 50);
   }
 
