@@ -948,7 +948,8 @@ public final class SheafVotes {
     /** All that an image keeps. Who asks for one of its farms asks hasFarm() first. */
     private static final class Parish {
         static final int NOTHING = -1;
-        private static final int UNBOUND = Integer.MAX_VALUE;
+        // Far above any days: a field of 999 sheaves takes 999 at most.
+        private static final int UNBOUND = 1000000;
 
         private final int[] weather;
         private final Farm[] rows;

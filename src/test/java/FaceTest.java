@@ -107,7 +107,7 @@ public final class FaceTest {
     while (m.find()) {
       library.add(m.group());
     }
-    library.removeAll(Set.of("Math.max", "Math.min", "Math.abs", "Integer.bitCount", "Integer.MAX_VALUE", "System.arraycopy"));
+    library.removeAll(Set.of("Math.max", "Math.min", "Math.abs", "Integer.bitCount", "System.arraycopy"));
     Due.holds("no library but what stands in the rules: " + library, library.isEmpty());
   }
 
